@@ -231,11 +231,14 @@ public final class CandleStatute {
             return TEXT_IS_WRONG - fault;
         }
         history.begin(now);
-        int answer = carryOutAll();
-        if (answer == REFUSED) {
-            history.takeBack(now);
+        for (int order = 0; order < orders.count; order++) {
+            int answer = carryOut(order);
+            if (answer < 0) {
+                history.takeBack(now);
+                return refuseOrder(order, answer);
+            }
         }
-        return settle(answer);
+        return settle(orders.count);
     }
 
     public int tell(int stub) {
@@ -534,20 +537,6 @@ public final class CandleStatute {
         return now.stubs.shortenWrits(hours);
     }
 
-    private int carryOutAll() {
-        for (int order = 0; order < orders.count; order++) {
-            int answer = carryOut(order);
-            if (answer < 0) {
-                if (answer != REFUSED) {
-                    reasons.clear();
-                }
-                reasons.putAhead(ORDER_NOT_CARRIED_OUT, order);
-                return REFUSED;
-            }
-        }
-        return orders.count;
-    }
-
     private int carryOut(int order) {
         int first = orders.firsts[order];
         int second = orders.seconds[order];
@@ -588,6 +577,15 @@ public final class CandleStatute {
     private int refuse(int code, int detail) {
         reasons.clear();
         reasons.putBehind(code, detail);
+        return REFUSED;
+    }
+
+    /** An order with another code than REFUSED has no reason that could stand behind this one. */
+    private int refuseOrder(int order, int answer) {
+        if (answer != REFUSED) {
+            reasons.clear();
+        }
+        reasons.putAhead(ORDER_NOT_CARRIED_OUT, order);
         return REFUSED;
     }
 
