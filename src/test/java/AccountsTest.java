@@ -11,6 +11,7 @@ public final class AccountsTest {
         promise31();
         promise32();
         promise32EveryChange();
+        promise32WholeState();
         promise32WhatStays();
         promise33();
         promise34();
@@ -186,6 +187,39 @@ public final class AccountsTest {
         x.undo();
         Due.due("mould undone", 20, x.houseOf(0, 2));
         Due.due("mould undone", 0, x.account(0));
+    }
+
+    private static void promise32WholeState() {
+        for (int kind = 0; kind < 11; kind++) {
+            CandleStatute x = new CandleStatute();
+            Due.due("begin", 6, Due.runText(x, "s0:20/3;s1:20/2;s1:9/1;p1+8;d;p0+1"));
+            Due.due("begin", 4, Due.runText(x, "o0>1=50;w2!0*3;w0!2*5;t1"));
+            x.save();
+            String before = Due.pictureOf(x);
+            Due.due("change " + kind, 1, makeChange(x, kind) >= 0 ? 1 : 0);
+            Due.due("it changes something", 0, before.equals(Due.pictureOf(x)) ? 1 : 0);
+            Due.due("undo", 2, x.undo());
+            Due.dueText("change " + kind + " undone", before, Due.pictureOf(x));
+            makeChange(x, kind);
+            x.restore();
+            Due.dueText("change " + kind + " restored", before, Due.pictureOf(x));
+        }
+    }
+
+    private static int makeChange(CandleStatute x, int kind) {
+        switch (kind) {
+            case 0: return x.stub(3, 5, 5);
+            case 1: return x.burn(1, 4);
+            case 2: return x.owe(1, 4, 17);
+            case 3: return x.writ(5, 1, 24);
+            case 4: return x.pool(0, 7);
+            case 5: return x.share();
+            case 6: return x.mould(1, 6, 2);
+            case 7: return x.heir(2, 2);
+            case 8: return x.end(1);
+            case 9: return x.pass(2);
+            default: return Due.runText(x, "t2;e0;b0*1");
+        }
     }
 
     private static void promise32WhatStays() {

@@ -64,6 +64,25 @@ final class Due {
         return line.toString();
     }
 
+    /** All that changes can change, as one text; it takes some 100 calls. */
+    static String pictureOf(CandleStatute x) {
+        StringBuilder picture = new StringBuilder();
+        for (int what = 0; what < 12; what++) {
+            picture.append(x.account(what)).append(' ');
+        }
+        for (int house = 0; house < 6; house++) {
+            for (int what = 0; what < 8; what++) {
+                picture.append(what == 0 ? "| " : "").append(x.houseOf(house, what)).append(' ');
+            }
+        }
+        for (int stub = 0; stub < x.account(0); stub++) {
+            for (int what = 0; what < 8; what++) {
+                picture.append(what == 0 ? "/ " : "").append(x.stubOf(stub, what)).append(' ');
+            }
+        }
+        return picture.toString();
+    }
+
     static void end(String test) {
         System.out.println(test + ": " + asked + " answers asked for, " + wrong + " not as due");
         if (wrong != 0) {

@@ -11,6 +11,8 @@ public final class HousesTest {
         promise13Debts();
         promise13Writs();
         promise13Melts();
+        promise13JustTooHeavy();
+        promise13FirstStub();
         promise14();
         promise15();
         promise16();
@@ -167,6 +169,33 @@ public final class HousesTest {
         y.end(0);
         Due.due("both melted", 58, y.houseOf(1, 2));
         Due.due("both melted", 2, y.account(0));
+    }
+
+    private static void promise13JustTooHeavy() {
+        CandleStatute x = new CandleStatute();
+        x.stub(1, 29, 1);
+        x.stub(0, 30, 1);
+        Due.due("end", 1, x.end(0));
+        Due.due("61 are too many", 30, x.houseOf(1, 2));
+        Due.due("61 are too many", 1, x.account(0));
+        x.stub(2, 29, 1);
+        Due.due("end", 2, x.end(1));
+        Due.due("60 are borne", 60, x.weight(2));
+        Due.due("60 are borne", 2, x.stubOf(0, 0));
+        Due.due("the store goes along", 30, x.houseOf(2, 2));
+        Due.due("isBalanced", 1, x.isBalanced());
+    }
+
+    private static void promise13FirstStub() {
+        CandleStatute x = new CandleStatute();
+        x.stub(3, 10, 1);
+        x.owe(0, 0, 12);
+        x.writ(0, 0, 5);
+        Due.due("its writ", 1, x.houseOf(0, 6));
+        x.end(0);
+        Due.due("owed to the heir", 1, x.stubOf(0, 3));
+        Due.due("its writ is gone", 0, x.stubOf(0, 5));
+        Due.due("room for a writ", 1, x.writ(4, 0, 5));
     }
 
     private static void promise14() {

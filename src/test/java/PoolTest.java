@@ -7,9 +7,12 @@ public final class PoolTest {
     public static void main(String[] args) {
         promise7();
         promise8();
+        promise8SmallestPool();
         promise8Refused();
         promises9And10Ties();
         promises9And10Light();
+        promises9And10Remainders();
+        promises9And10WholeDivision();
         promises9And10Nothing();
         promise11();
         promise11Refused();
@@ -69,6 +72,19 @@ public final class PoolTest {
         Due.due("store", 6, x.houseOf(0, 2));
     }
 
+    private static void promise8SmallestPool() {
+        CandleStatute x = new CandleStatute();
+        x.stub(4, 1, 1);
+        x.pool(0, 1);
+        Due.due("claim", 1, x.houseOf(4, 4));
+        Due.due("part", 1, x.part(4));
+        Due.due("partAgain", 1, x.partAgain(4));
+        Due.due("isBalanced", 1, x.isBalanced());
+        Due.due("share", 1, x.share());
+        Due.due("store", 1, x.houseOf(4, 2));
+        Due.due("mould", 0, x.mould(4, 1, 1));
+    }
+
     private static void promise8Refused() {
         CandleStatute x = new CandleStatute();
         Due.dueRefused(x, "empty", x.share(), "11:0");
@@ -121,6 +137,47 @@ public final class PoolTest {
             Due.due("partAgain " + house, due[house], x.partAgain(house));
         }
         Due.due("share", 2, x.share());
+    }
+
+    private static void promises9And10Remainders() {
+        CandleStatute x = new CandleStatute();
+        x.stub(0, 10, 1);
+        x.owe(0, 5, 1);
+        x.pool(0, 1);
+        // claims 1 and 1, for 1 of wax: the remainder is 1 for both
+        Due.due("the lowest", 1, x.part(0));
+        Due.due("the lowest", 1, x.partAgain(0));
+        Due.due("the other", 0, x.part(5));
+        Due.due("the other", 0, x.partAgain(5));
+        x.pool(0, 1);
+        // claims 2 and 1, for 2 of wax: 1 1/3 and 2/3
+        Due.due("the greatest remainder", 1, x.part(0));
+        Due.due("the greatest remainder", 1, x.part(5));
+        Due.due("the greatest remainder", 1, x.partAgain(5));
+        x.pool(0, 1);
+        // claims 3 and 1, for 3 of wax: 2 1/4 and 3/4
+        Due.due("the greatest remainder", 2, x.part(0));
+        Due.due("the greatest remainder", 1, x.part(5));
+        x.pool(0, 7);
+        Due.due("a claim of one that is gone", 0, x.part(5));
+        Due.due("all of it", 10, x.part(0));
+        Due.due("all of it", 10, x.partAgain(0));
+        Due.due("share", 1, x.share());
+    }
+
+    private static void promises9And10WholeDivision() {
+        CandleStatute x = new CandleStatute();
+        x.stub(0, 20, 1);
+        x.stub(0, 20, 1);
+        x.owe(0, 1, 1);
+        x.owe(1, 2, 7);
+        x.pool(0, 4);
+        // claims 4, 1 and 7 of 12, for 4 of wax: 1 4/12, 4/12, 2 4/12; 11 or 13 would share otherwise
+        int[] due = {2, 0, 2, 0, 0, 0};
+        for (int house = 0; house < 6; house++) {
+            Due.due("part " + house, due[house], x.part(house));
+            Due.due("partAgain " + house, due[house], x.partAgain(house));
+        }
     }
 
     private static void promises9And10Nothing() {

@@ -10,6 +10,7 @@ public final class StubsTest {
         promise2();
         promise2Tray();
         promise2Room();
+        twelveStubs();
         promise3();
         promise3BurnsDown();
         promise3Refused();
@@ -83,6 +84,35 @@ public final class StubsTest {
         Due.dueRefused(x, "tray ahead of room", x.stub(0, 3, 1), "3:64");
         x.end(5);
         Due.dueRefused(x, "ended ahead of tray", x.stub(5, 1, 1), "2:5");
+    }
+
+    private static void twelveStubs() {
+        CandleStatute x = new CandleStatute();
+        for (int i = 0; i < 12; i++) {
+            x.stub(i % 6, 12 - i, 1);
+        }
+        for (int i = 0; i < 12; i++) {
+            Due.due("owe", 1 + i / 6, x.owe(i, (i + 1) % 6, 1));
+            Due.due("writ", i + 1, x.writ((i + 2) % 6, i, 1 + i));
+        }
+        for (int i = 0; i < 12; i++) {
+            Due.due("brightest", i, x.brightest(i));
+            Due.due("a stub's wax", 12 - i, x.stubOf(i, 1));
+        }
+        for (int house = 0; house < 6; house++) {
+            int[] due = {1, (house + 1) % 6, 0, 0, 2, 2, 2, 2};
+            for (int what = 0; what < 8; what++) {
+                Due.due("houseOf " + what, due[what], x.houseOf(house, what));
+            }
+            Due.due("weight", 20 - 2 * house, x.weight(house));
+            Due.due("weightAgain", 20 - 2 * house, x.weightAgain(house));
+            Due.due("wouldMelt", 0, x.wouldMelt(house));
+        }
+        Due.due("isBalanced", 1, x.isBalanced());
+        Due.due("pass", 3, x.pass(3));
+        Due.due("end", 1, x.end(0));
+        Due.due("stubs", 12, x.account(0));
+        Due.due("no thirteenth place", NONE, x.brightest(12));
     }
 
     private static void promise3() {

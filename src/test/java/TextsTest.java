@@ -137,13 +137,16 @@ public final class TextsTest {
     private static void promise23Faults() {
         String[] texts = {"", "d;", "x", "D", "d;;d", ";d", "d ", " d", "dd",
             "s", "s0", "s0:", "s0:1", "s0:1/", "s00:1/1", "s0:123/1", "s0:1/12", "s:1/1", "s0/1/1", "s0:/1",
-            "b", "b1", "b12", "b123*1", "b1*", "b1*123", "b*1", "b1+1",
+            "m00:1/1", "m0:123/1", "m0:1/12", "h0>12", "w01!1*1", "w0!123*1", "w0!1*123", "p123+1", "p1+123",
+            "o1>2=1;", "e0;;", "b", "b1", "b12", "b123*1", "b1*", "b1*123", "b*1", "b1+1",
             "o1>", "o1>2", "o1>23", "o1>2=", "o1>2=123", "o123", "o1=2",
             "w0!", "w01", "w0!1*", "w0!12*99;", "w0!12*99;w", "w0!1*2*",
             "p1", "p1+", "p1*2", "p1+2+", "d1", "d:", "m0:1/", "m0:1/1/", "h0", "h0>", "h0>1>", "h01",
             "e", "e0e", "e01", "e-1", "t", "t1t", "t123", "t1;x", "t1 ;d", "e0;t1;b0*1;q", "~"};
         int[] faults = {0, 2, 0, 0, 2, 0, 1, 0, 1,
             1, 2, 3, 4, 5, 2, 5, 6, 1, 2, 3,
+            2, 5, 6, 4, 2, 5, 7, 3, 5,
+            7, 3,
             1, 2, 3, 3, 3, 5, 1, 2,
             3, 4, 4, 5, 7, 3, 2,
             3, 2, 5, 9, 10, 6,
@@ -216,7 +219,10 @@ public final class TextsTest {
         x.end(2);
         Due.due("tellHouses", 14, x.tellHouses());
         Due.dueText("line", "0 12+3 x 0 0 0", Due.lineOf(x));
-        x.pool(1, 5);
+        x.pool(1, 1);
+        Due.due("tellHouses", 16, x.tellHouses());
+        Due.dueText("line", "0 12+3 x 0 0 0+1", Due.lineOf(x));
+        x.pool(1, 4);
         Due.due("tellHouses", 16, x.tellHouses());
         Due.dueText("line", "0 12+3 x 0 0 0+5", Due.lineOf(x));
         x.share();
