@@ -7,6 +7,7 @@ import java.nio.file.Path;
 import java.util.Arrays;
 import java.util.Set;
 import java.util.TreeSet;
+import java.util.regex.Pattern;
 import java.util.stream.Collectors;
 
 /** The public face, and the rules of LANGUAGE.md that can be seen in the class or its source. */
@@ -19,10 +20,13 @@ public final class FaceTest {
         "int brightest(int)", "int append(int)", "int run()", "int tell(int)", "int tellHouses()",
         "int character(int)", "int reason(int,boolean)", "int account(int)", "int isBalanced()",
         "double meanWax()", "float snuffedShare()", "int undo()", "int save()", "int restore()"};
+    /** What no program under LANGUAGE.md has, as expressions over the source without comments and texts. */
     private static final String[] FORBIDDEN = {
-        "import ", "package ", "->", "::", "throw", "catch", "finally", "synchronized", "assert", "volatile",
-        "equals(", "hashCode", "toString(", "Exact(", "while (true)", "for (;;)", "@"};
-    private static final int LONGEST_METHOD = 60;
+        "\\bpackage\\b", "\\bimport\\s+(?!java\\.util\\.)", "\\bimport\\s+static\\b", "::", "\\bfinally\\b",
+        "\\bsynchronized\\b", "\\bassert\\b", "\\bvolatile\\b", "\\bstatic\\s*\\{", "\\bhashCode\\b", "Exact\\(",
+        "\\bcatch\\s*\\(\\s*(final\\s+)?(Throwable|Exception|Error|NullPointer|ArrayIndex|ClassCast|NegativeArray|ArrayStore)",
+        "\\bMath\\.random\\b", "\\bThread\\b", "\\bSystem\\.(?!arraycopy\\b)", "while\\s*\\(true\\)", "for\\s*\\(;;"};
+    private static final int LONGEST_METHOD = 65;
 
     public static void main(String[] args) throws Exception {
         constants();
@@ -94,12 +98,20 @@ public final class FaceTest {
 
     private static void source() throws Exception {
         String source = Files.readString(Path.of("src/main/java/CandleStatute.java"));
+        String code = withoutCommentsAndTexts(source);
         for (String forbidden : FORBIDDEN) {
-            String code = source.replace("'@'", "");
-            Due.due("'" + forbidden + "' in the source", -1, code.indexOf(forbidden));
+            Due.due(forbidden + " in the source", 0, Pattern.compile(forbidden).matcher(code).results().count());
         }
         Due.due("signs other than ASCII", 0, source.chars().filter(sign -> sign > 126).count());
-        String[] lines = source.split("\n");
+        methodLengths(source.split("\n"));
+    }
+
+    private static String withoutCommentsAndTexts(String source) {
+        return source.replaceAll("\"(\\\\.|[^\"\\\\])*\"|'(\\\\.|[^'\\\\])'", "0")
+                .replaceAll("(?s)/\\*.*?\\*/", "").replaceAll("//[^\n]*", "");
+    }
+
+    private static void methodLengths(String[] lines) {
         int start = 0;
         for (int i = 0; i < lines.length; i++) {
             if (lines[i].matches("( {4}| {8})[a-zA-Z].*\\) \\{")) {

@@ -19,6 +19,7 @@ public final class HousesTest {
         promise17();
         promises18And19();
         promise20();
+        promise20Ties();
         promise20Ended();
         promise21();
         Due.end("HousesTest");
@@ -330,6 +331,33 @@ public final class HousesTest {
         }
         Due.due("no place", NONE, x.ranked(6));
         Due.due("no place", NONE, x.ranked(-1));
+    }
+
+    private static void promise20Ties() {
+        CandleStatute x = new CandleStatute();
+        x.stub(2, 20, 1);
+        x.stub(4, 20, 1);
+        x.pool(0, 3);
+        x.pool(1, 4);
+        x.share();
+        x.stub(1, 20, 1);
+        x.pool(2, 5);
+        x.stub(3, 20, 1);
+        x.pool(3, 5);
+        x.owe(0, 4, 5);
+        x.owe(1, 2, 5);
+        // claims of 5 for 1 and 3 by wax, for 2 and 4 by light; stores of 3 for 2, of 4 for 4
+        int[] due = {4, 2, 1, 3, 0, 5};
+        for (int place = 0; place < 6; place++) {
+            Due.due("ranked " + place, due[place], x.ranked(place));
+        }
+        x.burn(1, 1);
+        Due.due("a claim of 4, and a store", 2, x.ranked(3));
+        x.undo();
+        x.mould(4, 1, 1);
+        Due.due("a store of 3 for both", 2, x.ranked(0));
+        x.mould(2, 1, 1);
+        Due.due("a store of 2 and of 3", 4, x.ranked(0));
     }
 
     private static void promise20Ended() {

@@ -244,5 +244,12 @@ public final class TextsTest {
         Due.due("far out", NONE, x.character(Integer.MAX_VALUE));
         Due.due("refused", REFUSED, x.burn(0, 8));
         Due.due("stays", '7', x.character(4));
+        Due.due("a longer line", 11, x.tellHouses());
+        Due.due("its last", '0', x.character(10));
+        Due.due("a shorter line", 7, x.tell(0));
+        Due.due("its last", '2', x.character(6));
+        for (int index = 7; index < 12; index++) {
+            Due.due("nothing of the longer one", NONE, x.character(index));
+        }
     }
 }
