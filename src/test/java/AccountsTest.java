@@ -106,6 +106,13 @@ public final class AccountsTest {
         Due.dueReal("three", 20.0 / 3.0, x.meanWax());
         x.pool(0, 10);
         Due.dueReal("two", 5.0, x.meanWax());
+        x.pool(0, 5);
+        x.pool(0, 5);
+        Due.dueReal("none any more", 0.0, x.meanWax());
+        for (int i = 0; i < 12; i++) {
+            x.stub(i % 6, i < 6 ? 30 : 7, 1);
+        }
+        Due.dueReal("twelve", 222.0 / 12.0, x.meanWax());
     }
 
     private static void promise31() {
@@ -121,6 +128,20 @@ public final class AccountsTest {
         Due.dueReal("two thirds", 2.0f / 3.0f, x.snuffedShare());
         x.pass(2);
         Due.dueReal("none", 0.0f, x.snuffedShare());
+        x.writ(3, 1, 2);
+        x.pool(0, 10);
+        Due.dueReal("a half", 0.5f, x.snuffedShare());
+        x.pool(1, 5);
+        Due.dueReal("all", 1.0f, x.snuffedShare());
+        x.pool(0, 5);
+        Due.dueReal("without stubs again", 0.0f, x.snuffedShare());
+        for (int i = 0; i < 12; i++) {
+            x.stub(i % 6, 7, 1);
+        }
+        for (int i = 0; i < 7; i++) {
+            x.writ((i + 1) % 6, i, 1);
+        }
+        Due.dueReal("seven of twelve", 7.0f / 12.0f, x.snuffedShare());
     }
 
     private static void promise32() {

@@ -108,8 +108,8 @@ public final class CodesTest {
     }
 
     private static void refusedForRoom() {
-        dueUnchanged("stub", CodesTest::makeTwelve, REFUSED, x -> x.stub(0, 1, 1), "1:12");
-        dueUnchanged("mould", CodesTest::makeTwelve, REFUSED, x -> x.mould(0, 1, 1), "1:12");
+        dueUnchanged("stub", Scenes::bringTwelve, REFUSED, x -> x.stub(0, 1, 1), "1:12");
+        dueUnchanged("mould", Scenes::bringTwelve, REFUSED, x -> x.mould(0, 1, 1), "1:12");
     }
 
     private static void refusedAsTheLastOne() {
@@ -126,7 +126,7 @@ public final class CodesTest {
         dueKept("wouldMelt", NOTHING, x -> x.wouldMelt(5));
         dueKept("reason", NOTHING, x -> x.reason(2, true));
         dueUnchanged("undo", x -> x.stub(6, 1, 1), NOTHING, x -> x.undo(), "");
-        dueUnchanged("restore", CodesTest::makeTwelve, NOTHING, x -> x.restore(), "");
+        dueUnchanged("restore", Scenes::bringTwelve, NOTHING, x -> x.restore(), "");
     }
 
     private static void questions() {
@@ -212,15 +212,6 @@ public final class CodesTest {
         makeBusy(x);
         x.stub(0, 29, 1);
         x.stub(0, 10, 1);
-    }
-
-    private static void makeTwelve(CandleStatute x) {
-        x.stub(0, 2, 1);
-        x.pool(0, 2);
-        x.share();
-        for (int i = 0; i < 12; i++) {
-            x.stub(i % 6, 1 + i, 1);
-        }
     }
 
     private static void makeLast(CandleStatute x) {

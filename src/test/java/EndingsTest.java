@@ -36,6 +36,7 @@ public final class EndingsTest {
         dueHeir("its heir", "523450", "", 0, 5);
         dueHeir("past one that has ended", "123450", "1", 0, 2);
         dueHeir("past four that have ended", "123450", "1234", 0, 5);
+        dueHeir("past three, not to the lowest", "123550", "123", 0, 5);
         dueHeir("past the last house", "123450", "0", 5, 1);
         dueHeir("past three, and the last house", "123450", "501", 4, 2);
         dueHeir("by the heir of the one that has ended", "143450", "1", 0, 4);
@@ -76,6 +77,7 @@ public final class EndingsTest {
         Due.due(why + ": inherits", due, x.inherits(house));
         Due.due(why + ": end", due, x.end(house));
         Due.due(why + ": ended", 0, x.houseOf(house, 0));
+        Due.due(why + ": its heir as told", heirs.charAt(house) - '0', x.houseOf(house, 1));
         Due.due(why + ": the heir is open", 1, x.houseOf(due, 0));
     }
 

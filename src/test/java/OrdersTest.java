@@ -228,12 +228,7 @@ public final class OrdersTest {
 
     /** Two stubs of house 3, and 30 in the stores of 0 and 5. */
     private static void makeRanged(CandleStatute x) {
-        x.stub(0, 30, 1);
-        x.pool(0, 30);
-        x.share();
-        x.stub(5, 30, 1);
-        x.pool(0, 30);
-        x.share();
+        Scenes.fillStores(x);
         x.stub(3, 30, 1);
         x.stub(3, 28, 1);
     }

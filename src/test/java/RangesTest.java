@@ -101,12 +101,7 @@ public final class RangesTest {
 
     /** Two stubs of house 4 and one of 3, none of another, and 30 in the stores of 0 and 5. */
     private static void prepare(CandleStatute x) {
-        x.stub(0, 30, 1);
-        x.pool(0, 30);
-        x.share();
-        x.stub(5, 30, 1);
-        x.pool(0, 30);
-        x.share();
+        Scenes.fillStores(x);
         x.stub(4, 30, 1);
         x.stub(4, 28, 9);
         x.stub(3, 29, 9);

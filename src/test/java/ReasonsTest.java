@@ -31,24 +31,12 @@ public final class ReasonsTest {
     }
 
     private static void reason1() {
-        CandleStatute x = twelveStubs();
+        CandleStatute x = Due.after(Scenes::bringTwelve);
         dueBoth(x, "stub", x.stub(0, 1, 1), "s0:1/1", "1:12");
         dueBoth(x, "mould", x.mould(0, 1, 1), "m0:1/1", "1:12");
         x.writ(0, 1, 9);
         x.writ(0, 2, 9);
         dueBoth(x, "writ", x.writ(0, 3, 9), "w0!3*9", "1:2");
-    }
-
-    /** House 0 has 2 in its store, and each house 2 stubs. */
-    private static CandleStatute twelveStubs() {
-        CandleStatute x = new CandleStatute();
-        x.stub(0, 2, 1);
-        x.pool(0, 2);
-        x.share();
-        for (int i = 0; i < 12; i++) {
-            x.stub(i % 6, 1, 1);
-        }
-        return x;
     }
 
     private static void reason2() {
@@ -148,7 +136,7 @@ public final class ReasonsTest {
         x.pool(0, 9);
         Due.due("share", 1, x.share());
         dueBoth(x, "shared out", x.share(), "d", "11:0");
-        CandleStatute y = twelveStubs();
+        CandleStatute y = Due.after(Scenes::bringTwelve);
         dueBoth(y, "with twelve", y.share(), "d", "11:12");
     }
 
@@ -205,7 +193,7 @@ public final class ReasonsTest {
     }
 
     private static void stubInItsOrder() {
-        CandleStatute x = twelveStubs();
+        CandleStatute x = Due.after(Scenes::bringTwelve);
         x.burn(0, 1);
         x.burn(5, 1);
         x.stub(0, 30, 1);
